@@ -84,7 +84,7 @@ public final class SoundKernel {
         Player player = requirePlayer(client);
         requireRunning(player);
         player.condition = DRAINING;
-        player.dropHalf();
+        player.half = false;
     }
 
     public int state(int client) {
@@ -440,10 +440,6 @@ public final class SoundKernel {
 
         boolean isEnding() {
             return condition == DRAINING || condition == STOPPED;
-        }
-
-        void dropHalf() {
-            half = false;
         }
 
         int numbersNow() {

@@ -9,6 +9,8 @@ public final class LimiterTest {
         sumOfClients();
         valueFalls();
         valueFallsByExactQuotient();
+        theGreaterSizeCounts();
+        limitedSumsAreRoundedDown();
         valueRises();
         valueRisesToItsFirst();
         framesCountWithoutTheLimiter();
@@ -71,6 +73,31 @@ public final class LimiterTest {
         check.due("value", x.value(), 4094);
         check.due("the frame of 32768", x.played(0, 0, false), 32760);
         check.due("the frame of 32776", x.played(0, 1, false), 32759);
+    }
+
+    private static void theGreaterSizeCounts() {
+        int[][] frames = {{-32768, 100}, {100, -32768}, {32767, -32768}, {-32768, 32767}};
+        for (int[] frame : frames) {
+            SoundKernel x = new SoundKernel();
+            Kernels.player(x, 48000, 2, 16);
+            for (int i = 0; i < 24; i++) {
+                x.write(0, frame[0]);
+                x.write(0, frame[1]);
+            }
+            Kernels.play(x);
+            check.due("value of left " + frame[0] + " and right " + frame[1], x.value(), 4095);
+        }
+    }
+
+    private static void limitedSumsAreRoundedDown() {
+        SoundKernel x = players(1);
+        x.write(0, -32768);
+        x.write(0, -1);
+        x.write(0, 1);
+        Kernels.fill(x, 0, 0, 21);
+        Kernels.play(x);
+        check.due("-1 times 4095 / 4096", x.played(0, 1, false), -1);
+        check.due("1 times 4095 / 4096", x.played(0, 2, false), 0);
     }
 
     /** Frames 0, 32, 64 and so on raise it: the second period has 32, the third 64, the fourth none. */
