@@ -40,7 +40,7 @@ public final class SoundKernel {
     public SoundKernel() {
     }
 
-    public int open(boolean plays, int rate, int channels, int bits) {
+    public int open(boolean plays, int rate, int channels, int bits) throws IllegalArgumentException, IllegalStateException {
         if (!isRate(rate) || (channels != 1 && channels != 2) || (bits != 8 && bits != 16)) {
             throw new IllegalArgumentException("no such rate, channels or bits");
         }
@@ -52,12 +52,12 @@ public final class SoundKernel {
         return number;
     }
 
-    public void close(int client) {
+    public void close(int client) throws IllegalArgumentException {
         requireClient(client);
         clients[client] = null;
     }
 
-    public void gain(int client, double g) {
+    public void gain(int client, double g) throws IllegalArgumentException {
         Player player = requirePlayer(client);
         // Written this way round so that what is not a number is refused too.
         if (!(g >= 0 && g <= 1)) {
@@ -66,7 +66,7 @@ public final class SoundKernel {
         player.loudness = (int) (g * Player.FULL);
     }
 
-    public void start(int client) {
+    public void start(int client) throws IllegalArgumentException, IllegalStateException {
         Client it = requireClient(client);
         if (it.condition != OPENED && it.condition != PAUSED) {
             throw new IllegalStateException("neither opened nor paused");
@@ -74,24 +74,24 @@ public final class SoundKernel {
         it.condition = RUNNING;
     }
 
-    public void pause(int client) {
+    public void pause(int client) throws IllegalArgumentException, IllegalStateException {
         Client it = requireClient(client);
         requireRunning(it);
         it.condition = PAUSED;
     }
 
-    public void drain(int client) {
+    public void drain(int client) throws IllegalArgumentException, IllegalStateException {
         Player player = requirePlayer(client);
         requireRunning(player);
         player.condition = DRAINING;
         player.half = false;
     }
 
-    public int state(int client) {
+    public int state(int client) throws IllegalArgumentException {
         return requireClient(client).condition;
     }
 
-    public boolean write(int client, int v) {
+    public boolean write(int client, int v) throws IllegalArgumentException, IllegalStateException {
         Player player = requirePlayer(client);
         if (!player.isNumber(v)) {
             throw new IllegalArgumentException("no number of its bits");
@@ -102,7 +102,7 @@ public final class SoundKernel {
         return player.accept(v);
     }
 
-    public int read(int client) {
+    public int read(int client) throws IllegalArgumentException, IllegalStateException {
         Listener listener = requireListener(client);
         if (listener.numbersNow() < 1) {
             throw new IllegalStateException("none is ready");
@@ -110,11 +110,11 @@ public final class SoundKernel {
         return listener.nextNumber();
     }
 
-    public int room(int client) {
+    public int room(int client) throws IllegalArgumentException {
         return requireClient(client).numbersNow();
     }
 
-    public int ahead(int client) {
+    public int ahead(int client) throws IllegalArgumentException {
         return requirePlayer(client).periodsWritten();
     }
 
@@ -147,29 +147,29 @@ public final class SoundKernel {
         return wasReady;
     }
 
-    public void coming(int i, boolean right, int v) {
+    public void coming(int i, boolean right, int v) throws IllegalArgumentException {
         if (!isFrame(i) || !isSample(v)) {
             throw new IllegalArgumentException("no such frame or sample");
         }
         incoming[sampleIndex(i, right)] = v;
     }
 
-    public int played(int period, int i, boolean right) {
+    public int played(int period, int i, boolean right) throws IllegalArgumentException {
         if (period < 0 || period >= PERIODS || !isFrame(i)) {
             throw new IllegalArgumentException("no such period or frame");
         }
         return past[slotOf(newestPast - period)][sampleIndex(i, right)];
     }
 
-    public int position(int client) {
+    public int position(int client) throws IllegalArgumentException {
         return (int) requireClient(client).place();
     }
 
-    public int late(int client) {
+    public int late(int client) throws IllegalArgumentException {
         return requireClient(client).timesLate;
     }
 
-    public double level(int client) {
+    public double level(int client) throws IllegalArgumentException {
         return (double) requirePlayer(client).squares / SAMPLES;
     }
 
@@ -187,7 +187,7 @@ public final class SoundKernel {
         return limiter.factor;
     }
 
-    public int tap(int phase, int k) {
+    public int tap(int phase, int k) throws IllegalArgumentException {
         if (phase < 0 || phase >= Taps.PHASES || k < 0 || k >= Taps.WIDTH) {
             throw new IllegalArgumentException("no such tap");
         }
