@@ -4,6 +4,18 @@ final class Check {
     static final Class<IllegalStateException> STATE = IllegalStateException.class;
 
     private int wrong = 0;
+    private String sentence = "";
+
+    /**
+     * The document's words that the answers from here on are about; the first are told with each wrong answer.
+     * SentencesTest reads these calls in the tests' text, so they are written out there.
+     */
+    void says(String... quotes) {
+        for (String quote : quotes) {
+            due("times that the document says '" + quote + "'", Document.times(quote), 1);
+        }
+        sentence = " (the document: '" + quotes[0] + "')";
+    }
 
     void due(String what, long got, long want) {
         if (got != want) {
@@ -49,6 +61,6 @@ final class Check {
 
     private void tell(String what, Object got, Object want) {
         wrong++;
-        System.out.println(what + " answered " + got + ", due is " + want);
+        System.out.println(what + " answered " + got + ", due is " + want + sentence);
     }
 }

@@ -24,7 +24,7 @@ public final class ClientsTest {
     }
 
     private static void newObject() {
-        SoundKernel x = new SoundKernel();
+        Kernel x = new Kernel();
         check.due("new: value", x.value(), 4096);
         check.due("new: clipped", x.clipped(), 0);
         check.due("new: limiter", x.limit(true), true);
@@ -41,7 +41,7 @@ public final class ClientsTest {
     }
 
     private static void noSuchClient() {
-        SoundKernel x = new SoundKernel();
+        Kernel x = new Kernel();
         for (int c : NO_CLIENTS) {
             check.dueThrow("close(none)", Check.ARGUMENT, () -> x.close(c));
             check.dueThrow("gain(none)", Check.ARGUMENT, () -> x.gain(c, 1));
@@ -62,7 +62,7 @@ public final class ClientsTest {
     private static void open() {
         int number = 0;
         for (int rate : new int[] {8000, 11025, 16000, 22050, 32000, 44100, 48000}) {
-            SoundKernel x = new SoundKernel();
+            Kernel x = new Kernel();
             number = 0;
             for (int channels = 1; channels <= 2; channels++) {
                 check.due("open: 8 bits", x.open(true, rate, channels, 8), number++);
@@ -76,7 +76,7 @@ public final class ClientsTest {
     }
 
     private static void openRefuses() {
-        SoundKernel x = new SoundKernel();
+        Kernel x = new Kernel();
         for (int rate : new int[] {0, -8000, 7999, 8001, 24000, 44101, 96000, Integer.MIN_VALUE}) {
             check.dueThrow("open(rate)", Check.ARGUMENT, () -> x.open(true, rate, 1, 8));
         }
@@ -95,7 +95,7 @@ public final class ClientsTest {
     }
 
     private static void close() {
-        SoundKernel x = new SoundKernel();
+        Kernel x = new Kernel();
         for (int i = 0; i < 6; i++) {
             x.open(true, 48000, 1, 16);
         }
@@ -124,7 +124,7 @@ public final class ClientsTest {
     }
 
     private static void closedOnesOutputsStay() {
-        SoundKernel x = new SoundKernel();
+        Kernel x = new Kernel();
         Kernels.player(x, 48000, 1, 16);
         Kernels.fill(x, 0, 700, 24);
         x.prepare();
@@ -139,7 +139,7 @@ public final class ClientsTest {
         double[] gains = {0, -0.0, 0.5, 1, 0.00390625, 0.0039062, Double.MIN_VALUE, 0.9999999999999999, 0.3};
         int[] parts = {0, 0, 128, 256, 1, 0, 0, 255, 76};
         for (int i = 0; i < gains.length; i++) {
-            SoundKernel x = new SoundKernel();
+            Kernel x = new Kernel();
             Kernels.player(x, 48000, 2, 16);
             for (int frame = 0; frame < 24; frame++) {
                 x.write(0, 1001);
@@ -153,7 +153,7 @@ public final class ClientsTest {
     }
 
     private static void gainRefuses() {
-        SoundKernel x = new SoundKernel();
+        Kernel x = new Kernel();
         Kernels.player(x, 48000, 1, 16);
         x.open(false, 48000, 1, 16);
         x.gain(0, 0.25);
@@ -168,7 +168,7 @@ public final class ClientsTest {
     }
 
     private static void startAndPause() {
-        SoundKernel x = new SoundKernel();
+        Kernel x = new Kernel();
         for (int c = 0; c < 2; c++) {
             int client = x.open(c == 0, 48000, 1, 16);
             check.dueThrow("pause of an opened one", Check.STATE, () -> x.pause(client));
@@ -196,7 +196,7 @@ public final class ClientsTest {
     }
 
     private static void drain() {
-        SoundKernel x = new SoundKernel();
+        Kernel x = new Kernel();
         x.open(true, 48000, 1, 16);
         Kernels.listener(x, 48000, 1, 16);
         check.dueThrow("drain of an opened one", Check.STATE, () -> x.drain(0));
@@ -224,7 +224,7 @@ public final class ClientsTest {
     }
 
     private static void drainDropsHalf() {
-        SoundKernel x = new SoundKernel();
+        Kernel x = new Kernel();
         Kernels.player(x, 48000, 2, 16);
         x.write(0, 10);
         x.write(0, 20);
@@ -236,7 +236,7 @@ public final class ClientsTest {
     }
 
     private static void drainPlaysWhatIsWritten() {
-        SoundKernel x = new SoundKernel();
+        Kernel x = new Kernel();
         Kernels.player(x, 48000, 1, 16);
         Kernels.fill(x, 0, 9, 48);
         x.drain(0);
@@ -256,7 +256,7 @@ public final class ClientsTest {
 
     private static void drainBetweenRates() {
         // At 8000 a period moves the place by 4: with 5 frames written it stops when the place is 12, not at 8.
-        SoundKernel x = new SoundKernel();
+        Kernel x = new Kernel();
         Kernels.player(x, 8000, 1, 16);
         Kernels.fill(x, 0, 1000, 5);
         x.drain(0);
@@ -267,7 +267,7 @@ public final class ClientsTest {
         x.prepare();
         check.due("place 12", x.state(0), 4);
         // With 1 frame written the place 8 less 7 is not below 1.
-        SoundKernel y = new SoundKernel();
+        Kernel y = new Kernel();
         Kernels.player(y, 8000, 1, 16);
         Kernels.fill(y, 0, 1000, 1);
         y.drain(0);

@@ -23,7 +23,7 @@ public final class ConvertingTest {
     }
 
     private static void tapsWrittenOut() {
-        SoundKernel x = new SoundKernel();
+        Kernel x = new Kernel();
         for (int[] row : WRITTEN_OUT) {
             for (int k = 0; k < 16; k++) {
                 check.due("tap " + row[0] + " " + k, x.tap(row[0], k), row[k + 1]);
@@ -32,8 +32,8 @@ public final class ConvertingTest {
     }
 
     private static void tapsByTheirRule() {
-        SoundKernel x = new SoundKernel();
         for (int p = 0; p < 32; p++) {
+            Kernel x = new Kernel();
             long[] weights = new long[16];
             long sum = 0;
             for (int k = 0; k < 16; k++) {
@@ -53,7 +53,7 @@ public final class ConvertingTest {
     }
 
     private static void tapRefuses() {
-        SoundKernel x = new SoundKernel();
+        Kernel x = new Kernel();
         for (int phase : new int[] {-1, 32, Integer.MIN_VALUE, Integer.MAX_VALUE}) {
             check.dueThrow("tap(phase)", Check.ARGUMENT, () -> x.tap(phase, 0));
         }
@@ -64,7 +64,7 @@ public final class ConvertingTest {
 
     /** At 16000 the outputs lie in thirds of a frame: phases 0, 10 and 21. */
     private static void playedImpulse() {
-        SoundKernel x = new SoundKernel();
+        Kernel x = new Kernel();
         Kernels.player(x, 16000, 2, 16);
         x.write(0, 16384);
         Kernels.fill(x, 0, 0, 31);
@@ -78,7 +78,7 @@ public final class ConvertingTest {
     }
 
     private static void playedImpulseOfTheSecondPeriod() {
-        SoundKernel x = new SoundKernel();
+        Kernel x = new Kernel();
         Kernels.player(x, 44100, 1, 16);
         Kernels.fill(x, 0, 0, 40);
         x.write(0, 16384);
@@ -97,7 +97,7 @@ public final class ConvertingTest {
 
     private static void playedConstant() {
         for (int rate : new int[] {8000, 11025, 22050, 32000, 44100}) {
-            SoundKernel x = new SoundKernel();
+            Kernel x = new Kernel();
             x.limit(false);
             Kernels.player(x, rate, 1, 16);
             Kernels.fill(x, 0, -32768, 100);
@@ -109,7 +109,7 @@ public final class ConvertingTest {
     }
 
     private static void roundedDown() {
-        SoundKernel x = new SoundKernel();
+        Kernel x = new Kernel();
         Kernels.player(x, 16000, 1, 16);
         x.write(0, -1);
         Kernels.fill(x, 0, 0, 15);
@@ -119,7 +119,7 @@ public final class ConvertingTest {
 
     /** At 16000 frame n lies at the captured frame 3 n, phase 0. */
     private static void capturedImpulse() {
-        SoundKernel x = new SoundKernel();
+        Kernel x = new Kernel();
         Kernels.listener(x, 16000, 2, 16);
         x.coming(10, true, 16384);
         x.card();
@@ -132,7 +132,7 @@ public final class ConvertingTest {
     }
 
     private static void capturedOverPeriods() {
-        SoundKernel x = new SoundKernel();
+        Kernel x = new Kernel();
         Kernels.listener(x, 44100, 1, 16);
         x.card();
         x.card();

@@ -20,7 +20,7 @@ public final class LimiterTest {
     }
 
     private static void sumOfClients() {
-        SoundKernel x = new SoundKernel();
+        Kernel x = new Kernel();
         for (int c = 0; c < 6; c++) {
             Kernels.player(x, 48000, 1, 16);
             Kernels.fill(x, c, c % 2 == 0 ? 101 : -50, 24);
@@ -31,14 +31,14 @@ public final class LimiterTest {
     }
 
     /** Each client writes a period of its number, on both channels. */
-    private static void writePeriod(SoundKernel x, int... numbers) {
+    private static void writePeriod(Kernel x, int... numbers) {
         for (int c = 0; c < numbers.length; c++) {
             Kernels.fill(x, c, numbers[c], 24);
         }
     }
 
-    private static SoundKernel players(int count) {
-        SoundKernel x = new SoundKernel();
+    private static Kernel players(int count) {
+        Kernel x = new Kernel();
         for (int c = 0; c < count; c++) {
             Kernels.player(x, 48000, 1, 16);
         }
@@ -46,7 +46,7 @@ public final class LimiterTest {
     }
 
     private static void valueFalls() {
-        SoundKernel x = players(2);
+        Kernel x = players(2);
         writePeriod(x, 32767, 0);
         Kernels.play(x);
         check.due("32767 changes no value", x.value(), 4096);
@@ -64,7 +64,7 @@ public final class LimiterTest {
 
     /** With 4095 the size 32776 gives 32767.998: more than 32767, though rounded down it is not. */
     private static void valueFallsByExactQuotient() {
-        SoundKernel x = players(2);
+        Kernel x = players(2);
         for (int i = 0; i < 24; i++) {
             x.write(0, i == 0 ? 32767 : 32700);
             x.write(1, i == 0 ? 1 : i == 1 ? 76 : 0);
@@ -78,7 +78,7 @@ public final class LimiterTest {
     private static void theGreaterSizeCounts() {
         int[][] frames = {{-32768, 100}, {100, -32768}, {32767, -32768}, {-32768, 32767}};
         for (int[] frame : frames) {
-            SoundKernel x = new SoundKernel();
+            Kernel x = new Kernel();
             Kernels.player(x, 48000, 2, 16);
             for (int i = 0; i < 24; i++) {
                 x.write(0, frame[0]);
@@ -90,7 +90,7 @@ public final class LimiterTest {
     }
 
     private static void limitedSumsAreRoundedDown() {
-        SoundKernel x = players(1);
+        Kernel x = players(1);
         x.write(0, -32768);
         x.write(0, -1);
         x.write(0, 1);
@@ -102,14 +102,14 @@ public final class LimiterTest {
 
     /** Frames 0, 32, 64 and so on raise it: the second period has 32, the third 64, the fourth none. */
     private static void valueRises() {
-        SoundKernel x = players(2);
+        Kernel x = players(2);
         writePeriod(x, 32767, 32767);
         int[] due = {2048, 2064, 2080, 2080, 2096};
         for (int value : due) {
             Kernels.play(x);
             check.due("value", x.value(), value);
         }
-        SoundKernel y = players(1);
+        Kernel y = players(1);
         Kernels.fill(y, 0, 16384, 48);
         int[] halves = {16384, 16384};
         for (int sample : halves) {
@@ -119,7 +119,7 @@ public final class LimiterTest {
     }
 
     private static void valueRisesToItsFirst() {
-        SoundKernel x = players(1);
+        Kernel x = players(1);
         Kernels.fill(x, 0, -32768, 24);
         Kernels.play(x);
         check.due("value", x.value(), 4095);
@@ -128,7 +128,7 @@ public final class LimiterTest {
     }
 
     private static void framesCountWithoutTheLimiter() {
-        SoundKernel x = players(2);
+        Kernel x = players(2);
         writePeriod(x, 32767, 32767);
         Kernels.play(x);
         x.limit(false);
@@ -142,7 +142,7 @@ public final class LimiterTest {
     }
 
     private static void limit() {
-        SoundKernel x = players(2);
+        Kernel x = players(2);
         check.due("on at first", x.limit(false), true);
         check.due("off", x.limit(false), false);
         writePeriod(x, 20000, 20000);
@@ -163,7 +163,7 @@ public final class LimiterTest {
     }
 
     private static void clipped() {
-        SoundKernel x = new SoundKernel();
+        Kernel x = new Kernel();
         x.limit(false);
         Kernels.player(x, 48000, 2, 16);
         Kernels.player(x, 48000, 2, 16);

@@ -20,7 +20,7 @@ public final class ListeningTest {
     }
 
     private static void readOfTwoChannels() {
-        SoundKernel x = new SoundKernel();
+        Kernel x = new Kernel();
         Kernels.listener(x, 48000, 2, 16);
         x.coming(0, false, 32767);
         x.coming(0, true, -32768);
@@ -45,7 +45,7 @@ public final class ListeningTest {
     }
 
     private static void readOfOneChannel() {
-        SoundKernel x = new SoundKernel();
+        Kernel x = new Kernel();
         Kernels.listener(x, 48000, 1, 16);
         int[][] frames = {{3, 4}, {-3, -4}, {32767, 32767}, {-32768, -32768}, {32767, -32768}};
         int[] due = {3, -4, 32767, -32768, -1};
@@ -62,7 +62,7 @@ public final class ListeningTest {
     }
 
     private static void readOfEightBits() {
-        SoundKernel x = new SoundKernel();
+        Kernel x = new Kernel();
         Kernels.listener(x, 48000, 2, 8);
         Kernels.listener(x, 48000, 1, 8);
         int[] samples = {-32768, -1, 0, 255, 256, 32767, -256, -257};
@@ -83,7 +83,7 @@ public final class ListeningTest {
     }
 
     private static void readRefuses() {
-        SoundKernel x = new SoundKernel();
+        Kernel x = new Kernel();
         Kernels.player(x, 48000, 1, 16);
         check.dueThrow("read of one that plays", Check.ARGUMENT, () -> x.read(0));
         x.open(false, 48000, 1, 16);
@@ -92,7 +92,7 @@ public final class ListeningTest {
     }
 
     private static void comingIsTakenOnce() {
-        SoundKernel x = new SoundKernel();
+        Kernel x = new Kernel();
         Kernels.listener(x, 48000, 1, 16);
         x.coming(0, false, 100);
         x.coming(0, true, 100);
@@ -108,7 +108,7 @@ public final class ListeningTest {
     }
 
     private static void comingRefuses() {
-        SoundKernel x = new SoundKernel();
+        Kernel x = new Kernel();
         Kernels.listener(x, 48000, 1, 16);
         for (int i : new int[] {-1, 24, Integer.MIN_VALUE, Integer.MAX_VALUE}) {
             check.dueThrow("coming(i)", Check.ARGUMENT, () -> x.coming(i, true, 0));
@@ -121,7 +121,7 @@ public final class ListeningTest {
     }
 
     private static void onlyWhileRunning() {
-        SoundKernel x = new SoundKernel();
+        Kernel x = new Kernel();
         x.open(false, 48000, 1, 16);
         x.card();
         check.due("an opened one hears nothing", x.room(0), 0);
@@ -147,7 +147,7 @@ public final class ListeningTest {
     }
 
     private static void tooMany() {
-        SoundKernel x = new SoundKernel();
+        Kernel x = new Kernel();
         Kernels.listener(x, 48000, 1, 16);
         Kernels.cards(x, 8);
         check.due("192 are ready", x.room(0), 192);
@@ -174,7 +174,7 @@ public final class ListeningTest {
     }
 
     private static void tooManyCountsHalfFrames() {
-        SoundKernel x = new SoundKernel();
+        Kernel x = new Kernel();
         Kernels.listener(x, 48000, 2, 16);
         Kernels.cards(x, 8);
         for (int i = 0; i < 31; i++) {
@@ -192,7 +192,7 @@ public final class ListeningTest {
         // Frame n needs the captured one at n * 48000 / rate, rounded down, and 8 more.
         int[] rates = {8000, 11025, 16000, 22050, 32000, 44100, 48000};
         for (int rate : rates) {
-            SoundKernel x = new SoundKernel();
+            Kernel x = new Kernel();
             Kernels.listener(x, rate, 1, 16);
             for (int periods = 1; periods <= 4; periods++) {
                 x.card();

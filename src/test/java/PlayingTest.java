@@ -26,7 +26,7 @@ public final class PlayingTest {
     }
 
     private static void writeAndRoomOfOneChannel() {
-        SoundKernel x = new SoundKernel();
+        Kernel x = new Kernel();
         x.open(true, 48000, 1, 16);
         check.due("room of an opened one", x.room(0), 200);
         check.due("200 frames have room", Kernels.fill(x, 0, 1, 200), 200);
@@ -47,7 +47,7 @@ public final class PlayingTest {
     }
 
     private static void writeAndRoomOfTwoChannels() {
-        SoundKernel x = new SoundKernel();
+        Kernel x = new Kernel();
         Kernels.player(x, 48000, 2, 16);
         check.due("room", x.room(0), 400);
         x.write(0, 11);
@@ -66,7 +66,7 @@ public final class PlayingTest {
     }
 
     private static void writeRefuses() {
-        SoundKernel x = new SoundKernel();
+        Kernel x = new Kernel();
         x.open(true, 48000, 2, 8);
         x.open(true, 48000, 2, 16);
         x.open(false, 48000, 1, 16);
@@ -87,7 +87,7 @@ public final class PlayingTest {
     }
 
     private static void numbersOfEightBits() {
-        SoundKernel x = new SoundKernel();
+        Kernel x = new Kernel();
         x.limit(false);
         Kernels.player(x, 48000, 1, 8);
         int[] numbers = {0, 1, 127, 128, 129, 255};
@@ -104,7 +104,7 @@ public final class PlayingTest {
     }
 
     private static void roomBetweenRates() {
-        SoundKernel x = new SoundKernel();
+        Kernel x = new Kernel();
         Kernels.player(x, 44100, 1, 16);
         Kernels.fill(x, 0, 1, 200);
         // 24 * 44100 / 48000 is 22.05, 48 of them 44.1.
@@ -115,7 +115,7 @@ public final class PlayingTest {
     }
 
     private static void aheadAtTheCardsRate() {
-        SoundKernel x = new SoundKernel();
+        Kernel x = new Kernel();
         x.open(true, 48000, 1, 16);
         check.due("ahead of nothing", x.ahead(0), 0);
         Kernels.fill(x, 0, 1, 23);
@@ -134,7 +134,7 @@ public final class PlayingTest {
     }
 
     private static void aheadBetweenRates() {
-        SoundKernel x = new SoundKernel();
+        Kernel x = new Kernel();
         Kernels.player(x, 8000, 1, 16);
         // Output 23 lies at 3 and needs frame 11; each period more needs 4 frames more.
         Kernels.fill(x, 0, 1, 11);
@@ -153,7 +153,7 @@ public final class PlayingTest {
     }
 
     private static void prepareAndCard() {
-        SoundKernel x = new SoundKernel();
+        Kernel x = new Kernel();
         Kernels.player(x, 48000, 1, 16);
         for (int period = 1; period <= 5; period++) {
             Kernels.fill(x, 0, period, 24);
@@ -177,7 +177,7 @@ public final class PlayingTest {
     }
 
     private static void playedKeepsFour() {
-        SoundKernel x = new SoundKernel();
+        Kernel x = new Kernel();
         Kernels.player(x, 48000, 2, 16);
         for (int i = 0; i < 120; i++) {
             x.write(0, i);
@@ -196,7 +196,7 @@ public final class PlayingTest {
     }
 
     private static void playedRefuses() {
-        SoundKernel x = new SoundKernel();
+        Kernel x = new Kernel();
         for (int period : new int[] {-1, 4, Integer.MIN_VALUE, Integer.MAX_VALUE}) {
             check.dueThrow("played(period)", Check.ARGUMENT, () -> x.played(period, 0, true));
         }
@@ -206,7 +206,7 @@ public final class PlayingTest {
     }
 
     private static void positionCountsWhatTheCardPlayed() {
-        SoundKernel x = new SoundKernel();
+        Kernel x = new Kernel();
         Kernels.player(x, 48000, 1, 16);
         Kernels.fill(x, 0, 7, 48);
         x.prepare();
@@ -224,7 +224,7 @@ public final class PlayingTest {
     }
 
     private static void positionBetweenRates() {
-        SoundKernel x = new SoundKernel();
+        Kernel x = new Kernel();
         Kernels.player(x, 11025, 1, 16);
         Kernels.fill(x, 0, 7, 60);
         // 24 * 11025 / 48000 is 5.5125; then 11.025, 16.5375, 22.05.
@@ -236,7 +236,7 @@ public final class PlayingTest {
     }
 
     private static void lateFades() {
-        SoundKernel x = new SoundKernel();
+        Kernel x = new Kernel();
         Kernels.player(x, 48000, 2, 16);
         Kernels.play(x);
         check.due("late at first", x.late(0), 1);
@@ -269,7 +269,7 @@ public final class PlayingTest {
     }
 
     private static void lateFadesBelowZero() {
-        SoundKernel x = new SoundKernel();
+        Kernel x = new Kernel();
         Kernels.player(x, 48000, 1, 16);
         Kernels.fill(x, 0, -33, 24);
         Kernels.play(x);
@@ -284,7 +284,7 @@ public final class PlayingTest {
     }
 
     private static void lastIsKeptOverAPause() {
-        SoundKernel x = new SoundKernel();
+        Kernel x = new Kernel();
         Kernels.player(x, 48000, 1, 16);
         Kernels.fill(x, 0, 160, 24);
         Kernels.play(x);
@@ -296,7 +296,7 @@ public final class PlayingTest {
     }
 
     private static void level() {
-        SoundKernel x = new SoundKernel();
+        Kernel x = new Kernel();
         Kernels.player(x, 48000, 2, 16);
         check.dueDouble("level at first", x.level(0), 0);
         x.write(0, 3);
