@@ -22,6 +22,7 @@ public final class GapEdgesTest {
         lateCounts();
         drainedFramesThatAreNotWritten();
         drainedBetweenRates();
+        drainedBehindManyFrames();
         stoppedOrNot();
         stoppedWithoutFrames();
         drainedNeverFades();
@@ -82,9 +83,9 @@ public final class GapEdgesTest {
 
     private static void fadeRoundsDown() {
         check.says("its LAST samples times 15 - j, divided by 16, rounded down,");
-        int[][] lasts = {{1, -1}, {16, -16}, {17, -17}, {32767, -32767}, {15, -32768}};
-        int[][] firsts = {{0, -1}, {15, -15}, {15, -16}, {30719, -30720}, {14, -30720}};
-        int[][] ends = {{0, -1}, {1, -1}, {1, -2}, {2047, -2048}, {0, -2048}};
+        int[][] lasts = {{1, -1}, {-1, 1}, {16, -16}, {17, -17}, {-17, 17}, {32767, -32767}, {-32768, 15}};
+        int[][] firsts = {{0, -1}, {-1, 0}, {15, -15}, {15, -16}, {-16, 15}, {30719, -30720}, {-30720, 14}};
+        int[][] ends = {{0, -1}, {-1, 0}, {1, -1}, {1, -2}, {-2, 1}, {2047, -2048}, {-2048, 0}};
         for (int n = 0; n < lasts.length; n++) {
             Kernel x = new Kernel();
             Kernels.player(x, 48000, 2, 16);
@@ -238,6 +239,34 @@ public final class GapEdgesTest {
                 check.due("output " + n + " at " + rate, x.played(0, n % 24, true), Rates.sample(frames, n, rate, 48000));
             }
             check.due("state at " + rate, x.state(0), 4);
+        }
+    }
+
+    /** Frames that are not written are 0 also where older ones, long given, were held before. */
+    private static void drainedBehindManyFrames() {
+        check.says("DRAINING gives 24 outputs, frames that are not written being 0;");
+        for (int rate : new int[] {22050, 32000, 44100, 48000}) {
+            int[] frames = new int[290];
+            Kernel x = new Kernel();
+            Kernels.player(x, rate, 1, 16);
+            int periods = 0;
+            for (int i = 0; i < frames.length; i++) {
+                frames[i] = 9000 + 31 * (i % 100);
+                while (!x.write(0, frames[i])) {
+                    Kernels.play(x);
+                    periods++;
+                }
+            }
+            x.drain(0);
+            while (x.state(0) == 3) {
+                Kernels.play(x);
+                for (int i = 0; i < 24 && x.ahead(0) == 0; i += 3) {
+                    int due = Rates.sample(frames, 24 * periods + i, rate, 48000);
+                    check.due("output " + (24 * periods + i) + " at " + rate, x.played(0, i, false), due);
+                }
+                periods++;
+            }
+            check.due("position at " + rate, x.position(0), Rates.place(24 * periods, rate, 48000));
         }
     }
 

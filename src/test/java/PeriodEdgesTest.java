@@ -90,7 +90,8 @@ public final class PeriodEdgesTest {
     }
 
     private static void oldestFirst() {
-        check.says("The card plays the oldest READY period, and captures one: true;", "A sample of frame i of a played period, the last one being 0.");
+        check.says("The card plays the oldest READY period, and captures one: true;",
+                "A sample of frame i of a played period, the last one being 0.");
         Kernel x = new Kernel();
         Kernels.player(x, 48000, 1, 16);
         Kernels.listener(x, 48000, 1, 16);
@@ -117,9 +118,12 @@ public final class PeriodEdgesTest {
         Kernel x = new Kernel();
         Kernels.player(x, 48000, 1, 16);
         Kernels.listener(x, 48000, 2, 16);
-        Kernels.fill(x, 0, 9, 48);
-        Kernels.play(x);
-        x.coming(23, true, 70);
+        // All periods that are kept hold something, so that zeros are seen.
+        for (int period = 0; period < 4; period++) {
+            Kernels.fill(x, 0, 9, 24);
+            Kernels.play(x);
+        }
+        Kernels.fill(x, 0, 9, 24);
         check.due("card", x.card(), false);
         for (int i = 0; i < 24; i++) {
             check.due("left", x.played(0, i, false), 0);
@@ -128,9 +132,11 @@ public final class PeriodEdgesTest {
         check.due("what was played before is one back", x.played(1, 23, false), 9);
         check.due("it takes none of the frames written", x.ahead(0), 1);
         check.due("nobody is LATE", x.late(0), 0);
-        check.due("a period was captured", x.room(1), 96);
+        check.due("a period was captured", x.room(1), 5 * 48);
         check.due("again", x.card(), false);
+        check.due("zeros again", x.played(0, 23, true), 0);
         check.due("what was played before is two back", x.played(2, 0, false), 9);
+        check.due("and is kept as the last but three", x.played(3, 0, false), 9);
         Kernels.cards(x, 2);
         check.due("and then it is not kept", x.played(3, 0, false), 0);
     }
@@ -231,7 +237,8 @@ public final class PeriodEdgesTest {
     }
 
     private static void levelOfOutputs() {
-        check.says("The mean of the squares of the 48 samples that a client gave to the last period made READY (outputs,", "before its GAIN: their sum divided by 48;");
+        check.says("The mean of the squares of the 48 samples that a client gave to the last period made READY (outputs,",
+                "before its GAIN: their sum divided by 48;");
         Kernel x = new Kernel();
         Kernels.player(x, 48000, 2, 16);
         Kernels.fill(x, 0, 0, 47);

@@ -129,7 +129,8 @@ public final class RefusedCallsTest {
     }
 
     private static void openOfNumbersThatAreNone() {
-        check.says("or a number is none of those told.", "A client: its number, the least that is free. IllegalArgument.");
+        check.says("or a number is none of those told.",
+                "A client: its number, the least that is free. IllegalArgument.");
         for (boolean plays : new boolean[] {true, false}) {
             for (int rate : Rates.ALL) {
                 refuseArgument(busy, "open at " + (rate - 1), x -> x.open(plays, rate - 1, 1, 8));
@@ -253,7 +254,8 @@ public final class RefusedCallsTest {
     }
 
     private static void asksOfOneThatListens() {
-        check.says("IllegalArgument: also if it listens. ## Promise 13", "IllegalArgument: also if it listens. ## Promise 20");
+        check.says("IllegalArgument: also if it listens. ## Promise 13",
+                "IllegalArgument: also if it listens. ## Promise 20");
         refuseArgument(busy, "ahead of a RUNNING one that listens", x -> x.ahead(2));
         refuseArgument(busy, "level of a RUNNING one that listens", x -> x.level(2));
         refuseArgument(full, "ahead of an OPENED one that listens", x -> x.ahead(5));

@@ -125,9 +125,11 @@ public final class WritingEdgesTest {
         check.due("199 frames and a left number", Kernels.fill(x, 0, 10, 399), 399);
         check.due("room for its right one", x.room(0), 1);
         check.due("the right number of frame 200", x.write(0, 20), true);
-        check.due("the left number of frame 201", x.write(0, 30), false);
-        check.due("what would be its right one", x.write(0, 40), false);
         check.due("room for none", x.room(0), 0);
+        check.due("the left number of frame 201", x.write(0, 30), false);
+        check.due("still room for none", x.room(0), 0);
+        check.due("what would be its right one", x.write(0, 40), false);
+        check.due("and once more", x.write(0, 40), false);
         x.prepare();
         check.due("room for the frames of a period", x.room(0), 48);
         check.due("numbers of a period", Kernels.fill(x, 0, 50, 48), 48);
@@ -250,7 +252,8 @@ public final class WritingEdgesTest {
     }
 
     private static void aheadOfEachRate() {
-        check.says("How many periods in a row the frames written are enough for.", "It NEEDS x(i + 8) (x(i), if a is b).");
+        check.says("How many periods in a row the frames written are enough for.",
+                "It NEEDS x(i + 8) (x(i), if a is b).");
         for (int[] needed : NEEDED) {
             Kernel x = new Kernel();
             Kernels.player(x, needed[0], 1, 16);
